@@ -1239,9 +1239,6 @@ public final class FiniteMatrices {
 
         private boolean readNumber(int cell) {
             boolean negative = pass('-');
-            if (!negative) {
-                skipBlanks();
-            }
             if (!isDigit()) {
                 return false;
             }
@@ -1255,6 +1252,7 @@ public final class FiniteMatrices {
             return true;
         }
 
+        /** Skips blanks in any case, and the sign if it is there. */
         private boolean pass(char sign) {
             skipBlanks();
             if (place >= count || bytes[place] != sign) {

@@ -24,6 +24,9 @@ public final class ListTest {
         due("12: anew when generators go", x.listed(), 1);
         x.unit(0, 0, -1);
         due("12: anew when generators come", x.listed(), 2);
+        x.unit(0, 1, 1);
+        x.image(3);
+        due("12: not by a prime, though one was asked for", x.listed(), 100);
     }
 
     private static void promise13Whole() {
@@ -112,6 +115,10 @@ public final class ListTest {
         due("17: BAD ahead of OVER, from the left", great.found(311111), BAD);
         FiniteMatrices many = Check.of(2, "1 1/0 1;1 0/1 1;");
         due("17: not in it", many.found(111111111), NONE);
+        FiniteMatrices edge = Check.of(2, "3 1/1 0;23 1/1 0;11 1/1 0;22 1/1 0;");
+        due("17: 1000000000, just within", edge.found(112413324), NONE);
+        FiniteMatrices beyond = Check.of(2, "18 1/1 0;1 1/1 0;37 1/1 0;13 1/1 0;");
+        due("17: 1000000001, just beyond", beyond.found(221334233), OVER);
         FiniteMatrices back = Check.of(2, "99 98/1 1;1 -98/-1 99;");
         due("17: and back", back.found(11112222), 0);
         due("17: too great on the way, though not in the end", back.found(111112), OVER);

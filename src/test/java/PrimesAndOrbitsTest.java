@@ -96,6 +96,24 @@ public final class PrimesAndOrbitsTest {
         due("24: it ends below 1000000000", great.orbit(1000, 0, 0), 4);
         due("24: a great number", great.point(3, 0), 989801000);
         due("24: CLOSED no more", great.round(1), 0);
+        orbitToTheEdge();
+    }
+
+    private static void orbitToTheEdge() {
+        FiniteMatrices x = Check.of(2, "70 47/73 49;");
+        due("23: the fourth is just within", x.orbit(688, 416, 0), 4);
+        due("24: 1000000000", Math.max(x.point(3, 0), x.point(3, 1)), 1000000000);
+        FiniteMatrices on = Check.of(3, "70 47 0/73 49 0/0 0 1;1 0 0/0 1 1/0 0 1;");
+        int points = on.orbit(688, 416, 1);
+        boolean edge = false;
+        boolean beyond = false;
+        for (int k = 0; k < points; k++) {
+            edge |= on.point(k, 1) == 1000000000;
+            beyond |= on.point(k, 1) > 1000000000;
+        }
+        Check.holds("23: 1000000000 is taken", edge);
+        Check.holds("23: 1000000001 is not, though it would come as one of the first 16", !beyond);
+        due("25: so it is not closed", on.round(1), 0);
     }
 
     private static FiniteMatrices withOrbit() {
