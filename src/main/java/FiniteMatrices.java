@@ -828,37 +828,35 @@ public final class FiniteMatrices {
             return true;
         }
 
+        /** Sums size products, each side going on by steps of its own. */
+        private static long addUp(long[] a, int atA, int stepA, long[] b, int atB, int stepB, int size) {
+            long sum = 0;
+            for (int k = 0; k < size; k++) {
+                sum += a[atA + k * stepA] * b[atB + k * stepB];
+            }
+            return sum;
+        }
+
         static void multiply(long[] a, int fromA, long[] b, int fromB, long[] out, int size) {
             for (int i = 0; i < size; i++) {
                 for (int j = 0; j < size; j++) {
-                    long sum = 0;
-                    for (int k = 0; k < size; k++) {
-                        sum += a[fromA + i * size + k] * b[fromB + k * size + j];
-                    }
-                    out[i * size + j] = sum;
+                    out[i * size + j] = addUp(a, fromA + i * size, 1, b, fromB + j, size, size);
                 }
             }
         }
 
+        /** The first one turned, times the second. */
         static void multiplyTurned(long[] a, int fromA, long[] b, int fromB, long[] out, int size) {
             for (int i = 0; i < size; i++) {
                 for (int j = 0; j < size; j++) {
-                    long sum = 0;
-                    for (int k = 0; k < size; k++) {
-                        sum += a[fromA + k * size + i] * b[fromB + k * size + j];
-                    }
-                    out[i * size + j] = sum;
+                    out[i * size + j] = addUp(a, fromA + i, size, b, fromB + j, size, size);
                 }
             }
         }
 
         static void move(long[] m, int fromM, long[] point, int fromPoint, long[] out, int size) {
             for (int i = 0; i < size; i++) {
-                long sum = 0;
-                for (int k = 0; k < size; k++) {
-                    sum += m[fromM + i * size + k] * point[fromPoint + k];
-                }
-                out[i] = sum;
+                out[i] = addUp(m, fromM + i * size, 1, point, fromPoint, 1, size);
             }
         }
 
@@ -1035,7 +1033,10 @@ public final class FiniteMatrices {
 
         boolean go(long[] cells, int from, int gen, long[] out) {
             Squares.multiply(cells, from, setting.cells, gen * CELLS, out, setting.size);
-            Squares.reduce(out, setting.cellCount(), prime);
+            if (prime > 0) {
+                Squares.reduce(out, setting.cellCount(), prime);
+                return true;
+            }
             return Squares.isWithin(out, setting.cellCount(), MOST_ON_THE_WAY);
         }
     }
