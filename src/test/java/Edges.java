@@ -10,6 +10,8 @@ final class Edges {
     static final String SHEAR = "1 1/0 1;";
     /** Never comes back, and its powers soon have numbers above 1000000000. */
     static final String STEEP = "99 98/1 1;";
+    /** As many generators as there may be, of as many rows; there is no end of products. */
+    static final String FOUR_OF_THREE = "1 1 0/0 1 0/0 0 1;1 0 0/0 1 1/0 0 1;1 0 0/0 1 0/1 0 1;1 0 0/1 1 0/0 0 1;";
 
     private Edges() {
     }

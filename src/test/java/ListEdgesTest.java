@@ -195,6 +195,11 @@ public final class ListEdgesTest {
         due("one alone", Check.of(3, "0 1 0/1 0 0/0 0 1;0 1 0/0 0 1/1 0 0;").middle(), 1);
         due("two of 48", Check.of(3, Edges.SIGNED).middle(), 2);
         due("great numbers, beyond which products go", Check.of(2, Edges.STEEP).middle(), 5);
+        due("of four generators", Edges.withFour().middle(), 2);
+        due("of 100 and four generators of three rows", Check.of(3, Edges.FOUR_OF_THREE).middle(), 1);
+        FiniteMatrices x = Check.of(2, Edges.SQUARE);
+        x.drop();
+        due("one that went counts no more", x.middle(), 2);
     }
 
     // ---- 19: form

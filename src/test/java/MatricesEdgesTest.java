@@ -212,6 +212,26 @@ public final class MatricesEdgesTest {
         due("so it has one", x.about(other, 3), 3);
     }
 
+    /** Of such kind, too: the greatest number of the second power is just within, or just outside. */
+    private static void lesserPowerAtTheEdge() {
+        String[] within = {"-1 -79 92/0 1 0/0 0 1;10 37 80/-3 -11 -25/0 0 1;", "-1 -79 -92/0 1 0/0 0 1;10 37 -80/-3 -11 25/0 0 1;"};
+        for (String text : within) {
+            FiniteMatrices x = Check.of(3, text);
+            int e = x.found(12121221);
+            due("it is in the list", e >= 0 ? 1 : 0, 1);
+            due("1000000000 or less 1000000000 in its second power: not outside", x.found(121221221) != OVER ? 1 : 0, 1);
+            due("so it has one", x.about(e, 3), 3);
+        }
+        String[] outside = {"-1 -38 -44/0 1 0/0 0 1;4 -3 -57/7 -5 -34/0 0 1;", "-1 -38 44/0 1 0/0 0 1;4 -3 57/7 -5 34/0 0 1;"};
+        for (String text : outside) {
+            FiniteMatrices x = Check.of(3, text);
+            int e = x.found(12212121);
+            due("it is in the list", e >= 0 ? 1 : 0, 1);
+            due("1000000001 or less 1000000001 in its second power: outside", x.found(122122121), OVER);
+            due("so it has none", x.about(e, 3), NONE);
+        }
+    }
+
     private static void looseOnes() {
         due("a shear", Check.of(2, Edges.SHEAR).of(0, 2), NONE);
         due("a steep one", Check.of(2, Edges.STEEP).of(0, 2), NONE);
@@ -278,6 +298,7 @@ public final class MatricesEdgesTest {
         Says.test(PART, "ORDER of a MATRIX: the least k (1 to 12) for which its k-th power is the first of THE LIST",
                 MatricesEdgesTest::leastPower);
         Says.test(PART, "(no number of a lesser power being outside -1000000000 to 1000000000)", MatricesEdgesTest::lesserPowerOutside);
+        Says.test(PART, "no number of a lesser power being outside -1000000000 to 1000000000", MatricesEdgesTest::lesserPowerAtTheEdge);
         Says.test(PART, "LOOSE: it has none", MatricesEdgesTest::looseOnes);
         Says.test(PART, "CHARACTER of a MATRIX: the determinant of x where row and column are alike, else 0, less the MATRIX, "
                 + "as a polynomial of x", MatricesEdgesTest::characters);

@@ -46,6 +46,11 @@ public final class OrbitsEdgesTest {
             // What is left of it comes back behind 2, 6, 4 and 7 steps; there are 5 elements.
             due("few, though no end, by " + p, Check.of(2, Edges.STEEP).faithful(p), p == 3 || p == 7 ? 1 : 0);
         }
+        due("100 of three rows, by 7", Check.of(3, Edges.FOUR_OF_THREE).faithful(7), 1);
+        FiniteMatrices x = Check.of(2, "-1 0/0 -1;");
+        due("1 and -1, by 2", x.faithful(2), 0);
+        x.drop();
+        due("what was listed before counts no more", x.faithful(2), 1);
         due("a turn by a third, by 2", Check.of(2, "0 -1/1 -1;").faithful(2), 1);
         due("a turn by a sixth, by 2", Check.of(2, Edges.SIXTH).faithful(2), 0);
     }
@@ -77,6 +82,7 @@ public final class OrbitsEdgesTest {
         due("no generators", new FiniteMatrices().orbit(1, 2, 3), 1);
         due("48", Check.of(3, Edges.SIGNED).orbit(1, 2, 3), 48);
         due("60", Check.of(2, Edges.SHEAR).orbit(0, 1, 0), 60);
+        due("60 of four generators of three rows", Check.of(3, Edges.FOUR_OF_THREE).orbit(1000, 1000, 1000), 60);
         FiniteMatrices x = Check.of(2, Edges.SQUARE);
         x.orbit(1, 2, 0);
         due("another one in its place", x.orbit(1, 0, 0), 4);
@@ -175,6 +181,11 @@ public final class OrbitsEdgesTest {
         roundOf(x, "48", 48, 1, 48);
         x.orbit(1, 0, 0);
         roundOf(x, "six", 6, 1, 48);
+        x = Check.of(2, Edges.SQUARE);
+        x.image(7);
+        x.orbit(1, 2, 0);
+        x.faithful(7);
+        roundOf(x, "behind an image", 8, 1, 8);
         x = Check.of(2, Edges.SHEAR);
         x.orbit(7, 0, 0);
         roundOf(x, "closed, though the list has no end", 1, 1, 1);
@@ -227,6 +238,7 @@ public final class OrbitsEdgesTest {
         due("100", Check.of(2, Edges.SHEAR).still(1000, 0, 0), 100);
         due("one of 100", Check.of(2, Edges.SHEAR).still(0, 1, 0), 1);
         due("great numbers", Check.of(2, Edges.STEEP).still(1000, -1000, 0), 1);
+        due("100 of three rows", Check.of(3, Edges.FOUR_OF_THREE).still(0, 0, 0), 100);
     }
 
     private static void stillCounts() {

@@ -413,7 +413,6 @@ public final class RowsEdgesTest {
     private static void takeIs() {
         FiniteMatrices x = new FiniteMatrices();
         Check.fill(x, 0, INTS, 7, 99, 98, 98, 97);
-        Check.fill(x, 1, LONGS, -99, 97, 98, -96, 7);
         due("of ints", x.take(0, 1), 0);
         Edges.generator("ints", x, 0, 99, 98, 98, 97);
         Check.fill(x, 1, LONGS, -99, -98, 98, 97, 7);
@@ -462,7 +461,6 @@ public final class RowsEdgesTest {
     private static void takeOutside() {
         for (int d = 1; d <= 3; d++) {
             FiniteMatrices x = Edges.ofSize(d);
-            x.lay(0, 0, 0);
             x.sheet(0, LONGS, d * d);
             x.lay(0, 0, 0);
             for (int off : Edges.outside(0, 0)) {

@@ -29,13 +29,25 @@ final class Says {
         readDocument();
     }
 
-    private static void readDocument() {
-        String text;
+    private static String textOfDocument() {
         try {
-            text = Files.readString(DOCUMENT);
+            return Files.readString(DOCUMENT);
         } catch (IOException e) {
             throw new UncheckedIOException(e);
         }
+    }
+
+    /** Where there is no document, the tests run all the same, but no sentence is looked up. */
+    private static boolean isThere() {
+        return Files.isReadable(DOCUMENT);
+    }
+
+    private static void readDocument() {
+        if (!isThere()) {
+            System.out.println("no sentence is looked up: there is no " + DOCUMENT);
+            return;
+        }
+        String text = textOfDocument();
         Matcher sections = Pattern.compile("(?ms)^## ([^\n]*)\n(.*?)(?=^## |\\z)").matcher(text);
         while (sections.find()) {
             String heading = sections.group(1);
@@ -69,7 +81,7 @@ final class Says {
                 return part;
             }
         }
-        return "";
+        return isThere() ? "" : name;
     }
 
     static void test(String name, String sentence, Runnable test) {
@@ -77,7 +89,7 @@ final class Says {
         label = part + ", \"" + sentence + "\"";
         checks = 0;
         tests++;
-        Check.holds(label + " stands in the document", name(part, sentence));
+        Check.holds(label + " stands in the document", !isThere() || name(part, sentence));
         test.run();
         Check.holds(label + " has a test", checks > 0);
     }
