@@ -333,8 +333,10 @@ public final class FormsEdgesTest {
                 FormsEdgesTest::turnedTimesThemselves);
         Says.test(PART, "by the greatest common divisor of all its numbers", FormsEdgesTest::byTheDivisor);
         Says.test(PART, "A table KEEPS, if it is alike, rows for columns", FormsEdgesTest::keepsIfAlike);
-        Says.test(PART, "all its determinants of the first 1, 2, .. rows and columns are above 0", FormsEdgesTest::keepsIfAboveZero);
-        Says.test(PART, "and each GENERATOR turned, times it, times the GENERATOR is it", FormsEdgesTest::keepsIfNoGeneratorChangesIt);
+        Says.test(PART, "all its determinants of the first 1, 2, .. rows and columns are above 0",
+                FormsEdgesTest::keepsIfAboveZero);
+        Says.test(PART, "and each GENERATOR turned, times it, times the GENERATOR is it",
+                FormsEdgesTest::keepsIfNoGeneratorChangesIt);
         Says.test(PART, "BY p (2, 3, 5, 7): numbers are what they leave by p (0 to p - 1)", FormsEdgesTest::whatIsLeft);
         Says.test(PART, "THE IMAGE: a list like THE LIST, BY p, which ends when there is no more to come, or with 400",
                 FormsEdgesTest::theImage);
@@ -354,7 +356,8 @@ public final class FormsEdgesTest {
                 FormsEdgesTest::roundOfTheOrbit);
         Says.test(PART, "till there is no more to come, or there are 200: how many", FormsEdgesTest::roundOf200);
         Says.test(PART, "STILL: ELEMENTS that leave a POINT as it is", FormsEdgesTest::stillOnes);
-        Says.test(PART, "MIDDLE: ELEMENTS that, times each GENERATOR, are the same as the GENERATOR times them", FormsEdgesTest::middleOnes);
+        Says.test(PART, "MIDDLE: ELEMENTS that, times each GENERATOR, are the same as the GENERATOR times them",
+                FormsEdgesTest::middleOnes);
     }
 
     public static void main(String[] args) {

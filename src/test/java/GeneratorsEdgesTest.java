@@ -521,13 +521,16 @@ public final class GeneratorsEdgesTest {
         Says.test("Promise 2", "if that is another one, there are no GENERATORS then", GeneratorsEdgesTest::sizeOfAnother);
         Says.test("Promise 2", "what it was", GeneratorsEdgesTest::sizeTellsWhatItWas);
         Says.test("Promise 2", "BAD", GeneratorsEdgesTest::sizeBad);
-        Says.test("Promise 3", "A GENERATOR: 1 where row and column are alike, else 0, but v at row i, column j", GeneratorsEdgesTest::unitIs);
+        Says.test("Promise 3", "A GENERATOR: 1 where row and column are alike, else 0, but v at row i, column j",
+                GeneratorsEdgesTest::unitIs);
         Says.test("Promise 3", "(i is j: v 1 or -1; else v -99 to 99)", GeneratorsEdgesTest::unitOfNumbers);
         Says.test("Promise 3", "its number", GeneratorsEdgesTest::unitNumber);
         Says.test("Promise 3", "BAD", GeneratorsEdgesTest::unitBad);
         Says.test("Promise 3", "FULL", GeneratorsEdgesTest::unitFull);
-        Says.test("Promise 4", "A GENERATOR: 0 a times b, 1 the inverse of a, 2 a turned, 3 a with all signs turned", GeneratorsEdgesTest::madeIs);
-        Says.test("Promise 4", "1 the inverse of a, 2 a turned, 3 a with all signs turned", GeneratorsEdgesTest::madeOfOtherSizes);
+        Says.test("Promise 4", "A GENERATOR: 0 a times b, 1 the inverse of a, 2 a turned, 3 a with all signs turned",
+                GeneratorsEdgesTest::madeIs);
+        Says.test("Promise 4", "1 the inverse of a, 2 a turned, 3 a with all signs turned",
+                GeneratorsEdgesTest::madeOfOtherSizes);
         Says.test("Promise 4", "(b counts by 0 alone)", GeneratorsEdgesTest::madeByB);
         Says.test("Promise 4", "its number", GeneratorsEdgesTest::madeNumber);
         Says.test("Promise 4", "BAD: what, a, b that counts", GeneratorsEdgesTest::madeBad);
@@ -545,14 +548,18 @@ public final class GeneratorsEdgesTest {
                 GeneratorsEdgesTest::ofIs);
         Says.test("Promise 7", "(NONE: it is LOOSE)", GeneratorsEdgesTest::ofLoose);
         Says.test("Promise 7", "BAD", GeneratorsEdgesTest::ofBad);
-        Says.test("Promise 8", "CHARACTER of a GENERATOR: 1000000 and what x to the k-th is taken times", GeneratorsEdgesTest::characterIs);
+        Says.test("Promise 8", "CHARACTER of a GENERATOR: 1000000 and what x to the k-th is taken times",
+                GeneratorsEdgesTest::characterIs);
         Says.test("Promise 8", "BAD", GeneratorsEdgesTest::characterBad);
-        Says.test("Promise 9", "How often FACTOR k (1, 2, 3, 4, 6) can be taken out of CHARACTER of a GENERATOR", GeneratorsEdgesTest::factorIs);
+        Says.test("Promise 9", "How often FACTOR k (1, 2, 3, 4, 6) can be taken out of CHARACTER of a GENERATOR",
+                GeneratorsEdgesTest::factorIs);
         Says.test("Promise 9", "BAD", GeneratorsEdgesTest::factorBad);
-        Says.test("Promise 10", "The n lowest bytes of a number come to THE TAPE, the lowest first: how many it has", GeneratorsEdgesTest::feedComes);
+        Says.test("Promise 10", "The n lowest bytes of a number come to THE TAPE, the lowest first: how many it has",
+                GeneratorsEdgesTest::feedComes);
         Says.test("Promise 10", "BAD: n is not 1 to 8", GeneratorsEdgesTest::feedBad);
         Says.test("Promise 10", "FULL", GeneratorsEdgesTest::feedFull);
-        Says.test("Promise 11", "MATRICES that THE TAPE tells are GENERATORS, in place of all that were: how many", GeneratorsEdgesTest::textTells);
+        Says.test("Promise 11", "MATRICES that THE TAPE tells are GENERATORS, in place of all that were: how many",
+                GeneratorsEdgesTest::textTells);
         Says.test("Promise 11", "-100 less the FAULT", GeneratorsEdgesTest::textFault);
     }
 

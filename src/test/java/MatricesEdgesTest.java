@@ -280,8 +280,10 @@ public final class MatricesEdgesTest {
         Says.test(PART, "MATRICES have d rows and columns (d is 1 to 3; 2 at first), numbered from 0; what stands in them are whole numbers",
                 MatricesEdgesTest::rowsAndColumns);
         Says.test(PART, "GENERATORS, 4 at most, numbered as they come", MatricesEdgesTest::fourAtMost);
-        Says.test(PART, "MATRICES of numbers -99 to 99, the determinant of which is 1 or -1", MatricesEdgesTest::numbersOfGenerators);
-        Says.test(PART, "A POINT is d whole numbers; a MATRIX times it: as rows times a column", MatricesEdgesTest::rowsTimesAColumn);
+        Says.test(PART, "MATRICES of numbers -99 to 99, the determinant of which is 1 or -1",
+                MatricesEdgesTest::numbersOfGenerators);
+        Says.test(PART, "A POINT is d whole numbers; a MATRIX times it: as rows times a column",
+                MatricesEdgesTest::rowsTimesAColumn);
         Says.test(PART, "THE LIST: first the MATRIX that changes nothing (1 where row and column are alike, else 0)",
                 MatricesEdgesTest::firstOfTheList);
         Says.test(PART, "Then, for each that is in it, in order, and for each GENERATOR, in order: the one times the GENERATOR "
@@ -297,8 +299,10 @@ public final class MatricesEdgesTest {
     private static void orderAndCharacter() {
         Says.test(PART, "ORDER of a MATRIX: the least k (1 to 12) for which its k-th power is the first of THE LIST",
                 MatricesEdgesTest::leastPower);
-        Says.test(PART, "(no number of a lesser power being outside -1000000000 to 1000000000)", MatricesEdgesTest::lesserPowerOutside);
-        Says.test(PART, "no number of a lesser power being outside -1000000000 to 1000000000", MatricesEdgesTest::lesserPowerAtTheEdge);
+        Says.test(PART, "(no number of a lesser power being outside -1000000000 to 1000000000)",
+                MatricesEdgesTest::lesserPowerOutside);
+        Says.test(PART, "no number of a lesser power being outside -1000000000 to 1000000000",
+                MatricesEdgesTest::lesserPowerAtTheEdge);
         Says.test(PART, "LOOSE: it has none", MatricesEdgesTest::looseOnes);
         Says.test(PART, "CHARACTER of a MATRIX: the determinant of x where row and column are alike, else 0, less the MATRIX, "
                 + "as a polynomial of x", MatricesEdgesTest::characters);

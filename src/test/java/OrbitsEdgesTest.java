@@ -278,7 +278,8 @@ public final class OrbitsEdgesTest {
     private static void promises24To26() {
         Says.test("Promise 24", "Number i of POINT k of THE ORBIT", OrbitsEdgesTest::pointIs);
         Says.test("Promise 24", "Refused as told: BAD: also if there is none", OrbitsEdgesTest::pointBad);
-        Says.test("Promise 25", "Of THE ORBIT: 0 how many POINTS, 1 1 if it is CLOSED, else 0, 2 its ROUND", OrbitsEdgesTest::roundIs);
+        Says.test("Promise 25", "Of THE ORBIT: 0 how many POINTS, 1 1 if it is CLOSED, else 0, 2 its ROUND",
+                OrbitsEdgesTest::roundIs);
         Says.test("Promise 25", "(NONE: it is not CLOSED)", OrbitsEdgesTest::roundNotClosed);
         Says.test("Promise 25", "BAD", OrbitsEdgesTest::roundBad);
         Says.test("Promise 25", "NONE: there is none", OrbitsEdgesTest::roundNone);

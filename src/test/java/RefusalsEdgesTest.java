@@ -368,7 +368,8 @@ public final class RefusalsEdgesTest {
         Says.test(PART, "where not told otherwise", RefusalsEdgesTest::notRefused);
         Says.test(PART, "(but that THE TAPE is used up by text())", RefusalsEdgesTest::tapeIsUsedUp);
         Says.test(PART, "of several the first named", RefusalsEdgesTest::firstNamed);
-        Says.test(PART, "BAD (-1) there is no such thing, or a number is not as told; FULL (-2); NONE (-3)", RefusalsEdgesTest::badFullNone);
+        Says.test(PART, "BAD (-1) there is no such thing, or a number is not as told; FULL (-2); NONE (-3)",
+                RefusalsEdgesTest::badFullNone);
         Says.test(PART, "and what the host refuses: -11 nothing where something is asked, -12 a place outside, "
                 + "-13 a row of another sort, -14 a size below 0", RefusalsEdgesTest::whatTheHostRefuses);
         Says.test(PART, "OVER (-16): a number is too great", RefusalsEdgesTest::tooGreat);

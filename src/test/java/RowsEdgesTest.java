@@ -610,7 +610,8 @@ public final class RowsEdgesTest {
 
     private static void promises27To31() {
         Says.test("Promise 27", "z becomes v: what it was", RowsEdgesTest::seedIs);
-        Says.test("Promise 28", "GENERATORS BY LOT come, n (1 to 4), or as many as there is room for: how many", RowsEdgesTest::lotComes);
+        Says.test("Promise 28", "GENERATORS BY LOT come, n (1 to 4), or as many as there is room for: how many",
+                RowsEdgesTest::lotComes);
         Says.test("Promise 28", "BAD", RowsEdgesTest::lotBad);
         Says.test("Promise 29", "A SHEET becomes a row of n of a sort, all 0", RowsEdgesTest::sheetBecomes);
         Says.test("Promise 29", "or is missing (sort -1, whatever n): 1", RowsEdgesTest::sheetMissing);
@@ -620,7 +621,8 @@ public final class RowsEdgesTest {
         Says.test("Promise 30", "BAD", RowsEdgesTest::putBad);
         Says.test("Promise 30", "-11", RowsEdgesTest::putMissing);
         Says.test("Promise 30", "-12", RowsEdgesTest::putOutside);
-        Says.test("Promise 31", "Place i of a row taken for one of a sort (of longs the lowest 32 bits)", RowsEdgesTest::itemIs);
+        Says.test("Promise 31", "Place i of a row taken for one of a sort (of longs the lowest 32 bits)",
+                RowsEdgesTest::itemIs);
         Says.test("Promise 31", "BAD: sheet, sort", RowsEdgesTest::itemBad);
         Says.test("Promise 31", "-11", RowsEdgesTest::itemMissing);
         Says.test("Promise 31", "-13", RowsEdgesTest::itemOtherSort);

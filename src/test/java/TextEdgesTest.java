@@ -362,19 +362,22 @@ public final class TextEdgesTest {
         Says.test(PART, "NUMBER: [ - ] digits, 1 or 2, as far as it goes", TextEdgesTest::numbersAsFarAsTheyGo);
         Says.test(PART, "Blanks (32) may stand anywhere but within a NUMBER", TextEdgesTest::blanksAnywhereElse);
         Says.test(PART, "4 MATRICES at most", TextEdgesTest::fourMatrices);
-        Says.test(PART, "FAULT: the place (from 0) of the first byte with which it can't go on", TextEdgesTest::firstByteThatCannotGoOn);
+        Says.test(PART, "FAULT: the place (from 0) of the first byte with which it can't go on",
+                TextEdgesTest::firstByteThatCannotGoOn);
         Says.test(PART, "(of ; the MATRIX ahead of which has another determinant, too)", TextEdgesTest::anotherDeterminant);
         Says.test(PART, "or the end (how many bytes there are), if more must come", TextEdgesTest::moreMustCome);
         Says.test(PART, "the first byte with which it can't go on", TextEdgesTest::allShortTexts);
     }
 
     private static void drawsAndSheets() {
-        Says.test(PART, "DRAWS: z (an int; 1 at first) becomes z * 1103515245 + 12345; z >>> 16 is drawn", TextEdgesTest::draws);
+        Says.test(PART, "DRAWS: z (an int; 1 at first) becomes z * 1103515245 + 12345; z >>> 16 is drawn",
+                TextEdgesTest::draws);
         Says.test(PART, "A GENERATOR BY LOT: i and j by what two draws leave by d; v by what a third one leaves by 5, less 2",
                 TextEdgesTest::lots);
         Says.test(PART, "if i is j: 1 where row and column are alike, but -1 there", TextEdgesTest::lotWhereAlike);
         Says.test(PART, "else the same as unit(i, j, v)", TextEdgesTest::lotElsewhere);
-        Says.test(PART, "SHEETS 0 to 3: rows of 0 ints, 1 longs, 2 shorts, 40 at most, or missing (at first)", TextEdgesTest::sheets);
+        Says.test(PART, "SHEETS 0 to 3: rows of 0 ints, 1 longs, 2 shorts, 40 at most, or missing (at first)",
+                TextEdgesTest::sheets);
         Says.test(PART, "n places of a row from i on are outside if n or i is below 0, or both together are more than it has",
                 TextEdgesTest::placesOutside);
         Says.test(PART, "or both together are more than it has", TextEdgesTest::placesFarOutside);
