@@ -1,4 +1,6 @@
+import java.math.BigInteger;
 import java.util.ArrayList;
+import java.util.Collections;
 import java.util.List;
 import java.util.Random;
 import java.util.function.LongSupplier;
@@ -61,9 +63,9 @@ public final class RandomRunsTest {
 
     private boolean feedText() {
         String[] texts = TEXTS[m.d - 1];
-        StringBuilder text = new StringBuilder(texts[below(texts.length)]);
+        StringBuilder text = new StringBuilder(below(2) == 0 ? texts[below(texts.length)] : groupByLot());
         if (below(4) == 0) {
-            text.setCharAt(below(text.length()), " -/;01x".charAt(below(7)));
+            text.setCharAt(below(text.length()), " -/;01x\u00a0".charAt(below(8)));
         }
         if (below(4) == 0) {
             text.insert(below(text.length() + 1), ' ');
@@ -75,6 +77,61 @@ public final class RandomRunsTest {
             }
         }
         return same("text()", false, x::text, m::text);
+    }
+
+    /** Of generators that together have an end, seen from elsewhere; so their numbers are no longer small. */
+    private String groupByLot() {
+        BigInteger[][] there = m.one();
+        BigInteger[][] back = m.one();
+        for (int k = below(5); k > 0 && m.d > 1; k--) {
+            int i = below(m.d);
+            int j = (i + 1 + below(m.d - 1)) % m.d;
+            int v = below(7) - 3;
+            there = Model.times(there, m.unitOf(i, j, v));
+            back = Model.times(m.unitOf(i, j, -v), back);
+        }
+        boolean sixths = m.d > 1 && below(3) == 0;
+        StringBuilder text = new StringBuilder(" ");
+        for (int k = below(4); k >= 0; k--) {
+            BigInteger[][] gen = Model.times(Model.times(there, sixths ? sixth() : signed()), back);
+            if (Model.within(gen, 99)) {
+                tell(gen, text);
+            }
+        }
+        return text.toString();
+    }
+
+    /** Changes of places and signs. */
+    private BigInteger[][] signed() {
+        List<BigInteger[]> rows = new ArrayList<>(List.of(m.one()));
+        Collections.shuffle(rows, random);
+        BigInteger[][] gen = rows.toArray(new BigInteger[0][]);
+        for (int i = 0; i < m.d; i++) {
+            gen = below(2) == 0 ? gen : Model.times(m.unitOf(i, i, -1), gen);
+        }
+        return gen;
+    }
+
+    /** Turns by a sixth, and mirrors, of the first two numbers; the third may change its sign. */
+    private BigInteger[][] sixth() {
+        int[][] all = {{0, -1, 1, 1}, {0, -1, 1, -1}, {0, 1, 1, 0}, {-1, 0, 0, -1}, {1, 1, 0, -1}};
+        int[] numbers = all[below(all.length)];
+        BigInteger[][] gen = m.one();
+        for (int k = 0; k < 4; k++) {
+            gen[k / 2][k % 2] = Model.big(numbers[k]);
+        }
+        return m.d == 3 && below(2) == 0 ? Model.times(m.unitOf(2, 2, -1), gen) : gen;
+    }
+
+    /** Blanks only where they must be. */
+    private static void tell(BigInteger[][] gen, StringBuilder text) {
+        for (int i = 0; i < gen.length; i++) {
+            text.append(i > 0 ? "/" : "");
+            for (int j = 0; j < gen.length; j++) {
+                text.append(j > 0 && gen[i][j].signum() >= 0 ? " " : "").append(gen[i][j]);
+            }
+        }
+        text.append(';');
     }
 
     private boolean feed(long eight, int n) {
